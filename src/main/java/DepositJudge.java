@@ -48,6 +48,7 @@ public final class DepositJudge {
     private static final int MOST_CLAUSES = 14;
     private static final int MOST_OPEN = 6;
     private static final int MOST_DIGITS = 5;
+    private static final int LETTERS = 10;
 
     private static final int MOST_WEAR = 9;
     private static final int ALL_HUNDREDTHS = 100;
@@ -68,9 +69,9 @@ public final class DepositJudge {
     private int homeCount = 0;
     private final Joiner joiner = new Joiner();
     private final Tape tape = new Tape();
-    private final LawReader reader = new LawReader(tape);
+    private final LawReader reader = new LawReader();
     private Law lawInForce = new Law();
-    private final int[] letters = new int[Law.LETTERS.length()];
+    private final int[] letters = new int[LETTERS];
     private final Docket docket = new Docket();
     private final Docket keptDocket = new Docket();
     private boolean wasKept = false;
@@ -78,6 +79,7 @@ public final class DepositJudge {
     private final Doubles doubles = new Doubles();
     private final Pictures pictures = new Pictures();
 
+    /** Everything but the homes is made here once, as no call may ask for much room. */
     public DepositJudge() {
     }
 
@@ -158,7 +160,7 @@ public final class DepositJudge {
         if (!within(n, 1, LAW_BYTES) || n > tape.length) {
             return NONE;
         }
-        int fault = reader.read(n);
+        int fault = reader.read(tape, n);
         tape.length = 0;
         if (fault != 0) {
             return fault;
@@ -214,9 +216,6 @@ public final class DepositJudge {
         }
         if (docket.isClaimed(h, i)) {
             return CLAIMED_BEFORE;
-        }
-        if (docket.claims >= MOST_CLAIMS) {
-            return NONE;
         }
         return docket.add(h, i, cause, evidence, day);
     }
@@ -389,11 +388,10 @@ public final class DepositJudge {
 
     public int fact(int a, int b, int days) {
         if (!within(a, 0, PICTURES) || !within(b, 0, PICTURES) || a == b
-                || !within(days, -MOST_FACT_DAYS, MOST_FACT_DAYS) || pictures.facts >= MOST_FACTS) {
+                || !within(days, -MOST_FACT_DAYS, MOST_FACT_DAYS)) {
             return NONE;
         }
-        pictures.add(a, b, days);
-        return pictures.facts;
+        return pictures.add(a, b, days);
     }
 
     public int dated(int picture, int what) {
@@ -530,7 +528,7 @@ public final class DepositJudge {
         return worth(home, i, home.months()) * below / state;
     }
 
-    /** Sets what the law's letters stand for; their places are those of Law.LETTERS. */
+    /** Sets what the law's letters stand for; their places are those of Law.LETTER_SIGNS. */
     private void describe(Home home, int i, int cause, int evidence) {
         letters[0] = home.atFirst.kinds[i];
         letters[1] = home.atFirst.rooms[i];
@@ -602,7 +600,7 @@ public final class DepositJudge {
         if (home.kept) {
             return 0;
         }
-        for (int k = 0; k < letters.length; k++) {
+        for (int k = 0; k < LETTERS; k++) {
             letters[k] = 0;
         }
         describeHome(home);
@@ -868,7 +866,7 @@ public final class DepositJudge {
      * A step bears the sign that it comes from; each sign of the text makes one step at most.
      */
     private static final class Law {
-        static final String LETTERS = "krsoamngcv";
+        static final String LETTER_SIGNS = "krsoamngcv";
         static final char NUMBER = '0';
         static final char LETTER = 'k';
 
@@ -956,7 +954,7 @@ public final class DepositJudge {
                 int operand = operands[at];
                 at++;
                 if (sign == NUMBER || sign == LETTER) {
-                    if (height >= LAW_BYTES || sign == LETTER && !within(operand, 0, meanings.length - 1)) {
+                    if (height >= LAW_BYTES || sign == LETTER && !within(operand, 0, LETTERS - 1)) {
                         return 0;
                     }
                     stack[height] = sign == NUMBER ? operand : meanings[operand];
@@ -1014,19 +1012,18 @@ public final class DepositJudge {
         private static final int TOO_MANY_OPEN = 5;
 
         Law draft = new Law();
-        private final Tape tape;
+        private final byte[] text = new byte[LAW_BYTES];
         private int end = 0;
         private int at = 0;
         private int fault = 0;
 
-        LawReader(Tape tape) {
-            this.tape = tape;
-        }
-
         /** Answers 0, with the law in draft, or the fault as the document counts it. */
-        int read(int n) {
+        int read(Tape tape, int n) {
             draft.clear();
-            end = n;
+            end = Math.min(n, LAW_BYTES);
+            for (int k = 0; k < end; k++) {
+                text[k] = tape.bytes[k];
+            }
             at = 0;
             fault = 0;
             // The turn beyond the last clause that may be is there to tell the fault.
@@ -1148,7 +1145,7 @@ public final class DepositJudge {
             if (sign >= '0' && sign <= '9') {
                 return number();
             }
-            int meaning = sign == NONE ? NONE : Law.LETTERS.indexOf((char) sign);
+            int meaning = sign == NONE ? NONE : Law.LETTER_SIGNS.indexOf((char) sign);
             if (meaning < 0) {
                 return refuse(UNFIT);
             }
@@ -1181,7 +1178,7 @@ public final class DepositJudge {
         }
 
         private int peek() {
-            return at >= 0 && at < end && at < TAPE_BYTES ? tape.bytes[at] & 255 : NONE;
+            return at >= 0 && at < end ? text[at] & 255 : NONE;
         }
 
         private boolean refuse(int number) {
@@ -1213,6 +1210,9 @@ public final class DepositJudge {
         }
 
         int add(int h, int i, int cause, int evidence, int day) {
+            if (claims >= MOST_CLAIMS) {
+                return NONE;
+            }
             homes[claims] = h;
             things[claims] = i;
             causes[claims] = cause;
@@ -1353,7 +1353,10 @@ public final class DepositJudge {
             return gaps[a * ALL + b];
         }
 
-        void add(int a, int b, int days) {
+        int add(int a, int b, int days) {
+            if (facts >= MOST_FACTS || wrongCount >= MOST_FACTS) {
+                return NONE;
+            }
             int back = gap(b, a);
             if (back != UNKNOWN && back + days > 0) {
                 wrongFacts[wrongCount] = facts;
@@ -1362,6 +1365,7 @@ public final class DepositJudge {
                 stretch(a, b, days);
             }
             facts++;
+            return facts;
         }
 
         /** As no way round is longer than 0, no longest way takes the new fact twice. */

@@ -6,6 +6,7 @@ public final class KeepTest {
         claims();
         offersAndX();
         keptLast();
+        claimsInAnothersPlace();
         whatIsNotKept();
         counts();
         due.end();
@@ -94,6 +95,28 @@ public final class KeepTest {
         due.is("32 changes after undo are not of the kept", x.award(0, 0, 0), 7);
         x.undo();
         due.is("32 as kept last", x.award(0, 0, 0), 5);
+    }
+
+    private static void claimsInAnothersPlace() {
+        DepositJudge x = court();
+        x.keep();
+        x.claim(0, 0, 4, 3, 9);
+        x.agree(0, 77);
+        x.answer(0, 9, true);
+        x.undo();
+        due.is("32 that thing is free again", x.claim(0, 0, 4, 3, 2), 0);
+        due.is("32 nothing agreed", x.award(0, 9, 0), 0);
+        due.is("32 nothing answered", x.award(0, 9, 1), 4);
+        due.is("32 its day", x.award(0, 2, 1), 4);
+        x.undo();
+        due.is("32 another thing", x.claim(0, 3, 1, 1, 5), 0);
+        due.is("32 the first is free", x.claim(0, 0, 1, 1, 5), 1);
+        due.is("31 both", x.keep(), 2);
+        due.is("32 a third", x.claim(0, 4, 1, 1, 5), 2);
+        x.undo();
+        due.is("32 claimed", x.claim(0, 3, 1, 1, 5), -2);
+        due.is("32 claimed", x.claim(0, 0, 1, 1, 5), -2);
+        due.is("32 free", x.claim(0, 4, 1, 1, 5), 2);
     }
 
     private static void whatIsNotKept() {

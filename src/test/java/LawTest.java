@@ -16,6 +16,8 @@ public final class LawTest {
         refused();
         asMuchAsMatters();
         theTextBeforeStays();
+        fourteenAsked();
+        nothingOldIsLeft();
         due.end();
     }
 
@@ -305,6 +307,39 @@ public final class LawTest {
         holds("1=2&1=1&1/0=0|2=2", true);
         holds("(1=1|1/0=0)&1/0=0", false);
         holds("(1=2&1/0=0)|1=1&2=2", true);
+    }
+
+    private static void fourteenAsked() {
+        wear("f1(k=0);f1(k=1);f1(k=2);f1(k=4);f1(k=5);f1(k=6);f1(k=7);f1(r=0);f1(r=1);f1(r=2);f1(r=3);f1(r=4);f1(r=5);f8(r=7)", 8);
+        wear("f1(k=0);f1(k=1);f1(k=2);f1(k=4);f1(k=5);f1(k=6);f1(k=7);f1(r=0);f1(r=1);f1(r=2);f1(r=3);f1(r=4);f1(r=5);f8(r=6)", 0);
+        DepositJudge x = new DepositJudge();
+        x.price(0, 0, 100);
+        x.home(0, 1, 100, 0, 1, false);
+        x.first(0, 0, 0, 5, 0);
+        x.claim(0, 0, 0, 0, 0);
+        x.answer(0, 0, false);
+        due.is("10 fourteen", Due.law(x, many(14).replace('k', 's')), 14);
+        due.is("10 a b among them", x.award(0, 0, 1), 5);
+        due.is("10 fourteen", Due.law(x, many(14).replace('k', 'a')), 14);
+        due.is("10 a b among them", x.award(0, 0, 1), 5);
+        due.is("10 fourteen", Due.law(x, many(14).replace("k", "9+c")), 14);
+        due.is("10 the tenth alone holds", x.award(0, 0, 1), 5);
+        due.is("10 fourteen", Due.law(x, many(14).replace("k", "99")), 14);
+        due.is("10 no b holds", x.award(0, 0, 1), 8);
+    }
+
+    private static void nothingOldIsLeft() {
+        DepositJudge x = new DepositJudge();
+        x.home(0, 1, 100, 0, 1, true);
+        x.first(0, 0, 0, 5, 0);
+        for (int turn = 0; turn < 3; turn++) {
+            due.is("10 two", Due.law(x, "f1(k=1);f2(k=0)"), 2);
+            due.is("10 the second", x.thing(0, 0, 2), 2);
+            due.is("10 a fault behind three", Due.law(x, "f5(k=0);f6(k=0);f7(k=0)="), -1023);
+            due.is("10 the second", x.thing(0, 0, 2), 2);
+            due.is("10 one", Due.law(x, "f3(k=1)"), 1);
+            due.is("10 none holds", x.thing(0, 0, 2), 0);
+        }
     }
 
     private static void theTextBeforeStays() {
