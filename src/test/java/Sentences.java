@@ -1,0 +1,85 @@
+import java.io.IOException;
+import java.nio.file.Files;
+import java.nio.file.Path;
+import java.util.function.IntPredicate;
+
+/** Runs one test for each sentence of the document, under that sentence's own words, and tells which words have none. */
+final class Sentences {
+    private static final Path DOCUMENT = Path.of(System.getProperty("shared", "../shared"), "DOC.md");
+
+    private final Due due = new Due();
+    private final String document;
+    private final boolean[] quoted;
+    private String now = "";
+    private int asked = 0;
+    private int tests = 0;
+
+    Sentences() throws IOException {
+        document = Files.readString(DOCUMENT).replaceAll("\\s+", " ");
+        quoted = new boolean[document.length()];
+    }
+
+    /** A sentence that stands ahead of the promises. */
+    void term(String words, Runnable test) {
+        run(words, 0, document.indexOf("## Promise 1:"), test);
+    }
+
+    void promise(int number, String words, Runnable test) {
+        int from = document.indexOf("## Promise " + number + ":");
+        int to = document.indexOf(" ## ", from);
+        run(words, from, to, test);
+    }
+
+    private void run(String words, int from, int to, Runnable test) {
+        now = words;
+        asked = 0;
+        tests++;
+        int at = document.indexOf(words, Math.max(0, from));
+        yes("the document says so", from >= 0 && at >= 0 && at + words.length() <= to);
+        for (int k = 0; at >= 0 && k < words.length(); k++) {
+            quoted[at + k] = true;
+        }
+        int before = asked;
+        test.run();
+        yes("it was tested", asked > before);
+    }
+
+    void is(String call, long got, long want) {
+        asked++;
+        due.is("\"" + now + "\": " + call, got, want);
+    }
+
+    void yes(String call, boolean got) {
+        is(call, got ? 1 : 0, 1);
+    }
+
+    void no(String call, boolean got) {
+        is(call, got ? 1 : 0, 0);
+    }
+
+    /** What is taken from least to most, and nothing else. */
+    void range(String call, int least, int most, IntPredicate taken) {
+        yes(call + " of " + least, taken.test(least));
+        yes(call + " of " + most, taken.test(most));
+        no(call + " of " + (least - 1), taken.test(least - 1));
+        no(call + " of " + (most + 1), taken.test(most + 1));
+        no(call + " of the least int", taken.test(Integer.MIN_VALUE));
+        no(call + " of the greatest int", taken.test(Integer.MAX_VALUE));
+    }
+
+    /** Headings, signatures and marks need no test; all other words do. */
+    void end() {
+        StringBuilder left = new StringBuilder();
+        int end = document.indexOf("## Not promised");
+        for (int k = document.indexOf("## Terms"); k < end; k++) {
+            left.append(quoted[k] ? '~' : document.charAt(k));
+        }
+        String bare = left.toString().replaceAll("## Terms|## Promise \\d+: (A new object|\\w+)|```(text)?|==== \\d\\.", "~")
+                .replaceAll("`[^`]*\\([^`]*\\)`:", "~");
+        for (String words : bare.split("~+")) {
+            due.no("no test quotes \"" + words.trim() + "\"", words.matches(".*[A-Za-z0-9].*"));
+        }
+        System.out.println(tests + " sentences");
+        due.end();
+    }
+}
