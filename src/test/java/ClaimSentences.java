@@ -160,6 +160,13 @@ final class ClaimSentences {
         DepositJudge x = Cases.claimed(0, 0);
         x.answer(0, 10, true);
         award("answered", x, 10, 0, 8);
+        DepositJudge y = Cases.court();
+        y.keep();
+        y.claim(0, 0, 0, 0, 10);
+        y.agree(0, 500);
+        y.undo();
+        y.claim(0, 1, 0, 0, 10);
+        award("in the place of one that was undone", y, 10, 0, 4);
     }
 
     private void answers() {
@@ -497,6 +504,15 @@ final class ClaimSentences {
         shares(2, new int[] {1, 2, 3, 4}, 0, 0, 1, 1);
         shares(7, new int[] {2, 3, 4, 5}, 1, 2, 2, 2);
         shares(1, new int[] {0, 0, 1, 2}, 0, 0, 0, 1);
+        DepositJudge x = new DepositJudge();
+        x.home(0, 4, 1, 0, 0, true);
+        x.home(0, 2, 1, 0, 0, true);
+        for (int t = 0; t < 4; t++) {
+            x.part(0, t, 99);
+        }
+        doc.is("a home of four", x.judged(0, 0, 10), 1);
+        doc.is("a home of two behind it", x.judged(1, 0, 10), 1);
+        doc.is("a home of two behind it", x.judged(1, 0, 11), 0);
     }
 
     private void lowestOfLikeOnes() {

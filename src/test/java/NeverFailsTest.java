@@ -17,6 +17,7 @@ public final class NeverFailsTest {
 
     public static void main(String[] args) {
         anyArguments();
+        anyState();
         room();
         due.end();
     }
@@ -45,6 +46,30 @@ public final class NeverFailsTest {
                     boolean small = random.nextInt(3) != 0;
                     given[p] = call.getParameterTypes()[p] == boolean.class ? (Object) random.nextBoolean()
                             : (Object) (small ? random.nextInt(4) : EDGES[random.nextInt(EDGES.length)]);
+                }
+                ends(x, call, given);
+            }
+        }
+    }
+
+    /** Far beyond 512 calls, with laws that are whole, so that much is full and much is asked. */
+    private static void anyState() {
+        List<Method> calls = calls();
+        for (int run = 0; run < 40; run++) {
+            Random random = new Random(1000 + run);
+            DepositJudge x = new DepositJudge();
+            for (int k = 0; k < 3000; k++) {
+                if (random.nextInt(20) == 0) {
+                    String text = new RandomLaw(random).text();
+                    x.law(1);
+                    Due.feed(x, text);
+                    x.law(text.length());
+                }
+                Method call = calls.get(random.nextInt(calls.size()));
+                Object[] given = new Object[call.getParameterCount()];
+                for (int p = 0; p < given.length; p++) {
+                    int value = random.nextInt(30) == 0 ? EDGES[random.nextInt(EDGES.length)] : random.nextInt(10);
+                    given[p] = call.getParameterTypes()[p] == boolean.class ? (Object) random.nextBoolean() : (Object) value;
                 }
                 ends(x, call, given);
             }

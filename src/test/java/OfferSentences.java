@@ -264,6 +264,11 @@ final class OfferSentences {
         spread(x, 2, 9999, 2);
         x.twice(3, 0, 1, 3);
         spread(x, 0, 7, 2);
+        x.twice(4, 5, 2, 0);
+        x.twice(4, 5, 0, 1);
+        x.twice(4, 5, 7, 7);
+        spread(x, 4, 1, 1);
+        leans(x, 4, 1, 3);
     }
 
     private void leans(DepositJudge x, int judge, int above, int below) {

@@ -379,6 +379,10 @@ final class PromiseSentences {
         doc.is("the third", Due.law(x, "t1(k=0);f3(k=3);t4(1=1)"), 3);
         doc.is("f", x.thing(0, 0, 2), 3);
         doc.is("t", x.judged(0, 0, 2), 100);
+        for (int turn = 0; turn < 40; turn++) {
+            doc.is("one more", Due.law(x, "f9(!k=3|r=0);f" + turn + "%10(k+r=s+4&o<3)"), 2);
+            doc.is("f", x.thing(0, 0, 2), turn % 10);
+        }
     }
 
     private void howManyClauses() {
@@ -404,7 +408,9 @@ final class PromiseSentences {
         DepositJudge x = Cases.lettered();
         Due.law(x, "f3(k=3);b(k=0)");
         for (String text : new String[] {"x", "f", "f4(k=3);", "f4(k=3);f123456", "f[[[[[[[", "f4(k=3);".repeat(14) + "f4(k=3)"}) {
-            doc.yes("a fault", Due.law(x, text) <= -1000);
+            for (int turn = 0; turn < 9; turn++) {
+                doc.yes("a fault", Due.law(x, text) <= -1000);
+            }
             doc.is("f", x.thing(0, 0, 2), 3);
             doc.is("clauses", x.count(2), 2);
         }

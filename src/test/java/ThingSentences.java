@@ -347,6 +347,15 @@ final class ThingSentences {
         x.first(0, 0, 0, 5, 0);
         x.last(1, 0, 0, 5);
         doc.is("of another home", x.thing(0, 0, 0), -2);
+        DepositJudge y = Cases.withHome();
+        for (int room = 0; room < 5; room++) {
+            y.last(0, room, 0, 9);
+        }
+        y.first(0, 5, 0, 9, 0);
+        y.last(0, 5, 0, 8);
+        doc.is("its own beside new ones of other rooms", y.thing(0, 0, 0), 5);
+        y.last(0, 5, 0, 9);
+        doc.is("a better one of its own", y.thing(0, 0, 0), 6);
     }
 
     private void row(int[] before, int[] after, int... want) {
