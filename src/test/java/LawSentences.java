@@ -270,6 +270,7 @@ final class LawSentences {
     private void noneIs0() {
         wear("f5(1=2)", 0);
         wear("b(1=1)", 0);
+        wear(repeated("f1(k=0);", 13) + "f8(k=1)", 0);
         doc.is("t, none that holds", penaltyBy("t5(1=2)"), 0);
         doc.is("t, no clause", penaltyBy("f5(1=1)"), 0);
     }
@@ -286,6 +287,8 @@ final class LawSentences {
         doc.is("the last holds", reason("b(1=2);b(c=3);b(c=4)"), 5);
         doc.is("the first holds", reason("b(c=4);b(c=3);b(1=2)"), 5);
         doc.is("none holds", reason("b(1=2);b(c=3)"), 7);
+        doc.is("the last of fourteen holds", reason(repeated("b(c=3);", 13) + "b(c=4)"), 5);
+        doc.is("none of fourteen holds", reason(repeated("b(c=3);", 13) + "b(c=5)"), 7);
         doc.is("no clause", reason("p50(1=1)"), 7);
         doc.is("one refused, one holds", reason("b(1/0=0);b(1=1)"), 5);
         doc.is("one refused", reason("b(1/0=0)"), 7);

@@ -542,6 +542,13 @@ final class OfferSentences {
             doc.is("silent, kind " + kind, x.byKind(kind, 1000 + kind), 1100);
             doc.is("both silent, kind " + kind, x.byKind(kind, 1010 + kind), 2000);
         }
+        DepositJudge y = Cases.withHomes(2);
+        y.price(0, 0, 99999);
+        for (int c = 0; c < 30; c++) {
+            y.first(c % 2, 0, 0, 5, 0);
+            y.claim(c % 2, c / 2, 0, 0, 0);
+        }
+        doc.is("thirty of the dearest", y.byKind(0, 9999), 2999970);
     }
 
     private void keptClaims() {

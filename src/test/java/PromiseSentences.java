@@ -383,6 +383,16 @@ final class PromiseSentences {
             doc.is("one more", Due.law(x, "f9(!k=3|r=0);f" + turn + "%10(k+r=s+4&o<3)"), 2);
             doc.is("f", x.thing(0, 0, 2), turn % 10);
         }
+        for (int turn = 0; turn < 4; turn++) {
+            doc.is("three, none of which holds", Due.law(x, "f1(k=0);t1(k=1);f2(k=2)"), 3);
+            doc.is("f", x.thing(0, 0, 2), 0);
+            doc.is("three", Due.law(x, "f1(k=0);t1(m=30);f2(k=3)"), 3);
+            doc.is("f", x.thing(0, 0, 2), 2);
+            doc.is("a fault behind three", Due.law(x, "f5(k=3);t6(m=30);f7(k=3);"), -1025);
+            doc.is("one that does not hold", Due.law(x, "f3(k=0)"), 1);
+            doc.is("f", x.thing(0, 0, 2), 0);
+            doc.is("t", x.judged(0, 0, 2), 0);
+        }
     }
 
     private void howManyClauses() {
@@ -1163,6 +1173,15 @@ final class PromiseSentences {
             x.claim(0, c, 0, 0, 0);
         }
         doc.is("keep", x.keep(), 4);
+        DepositJudge y = Cases.withHomes(6);
+        for (int c = 0; c < 30; c++) {
+            y.first(c % 6, 0, 0, 5, 0);
+            y.claim(c % 6, c / 6, 0, 0, 0);
+        }
+        doc.is("keep of all there may be", y.keep(), 30);
+        doc.yes("undo of all there may be", y.undo());
+        doc.is("claims", y.count(1), 30);
+        doc.is("the last", y.count(59), 5);
     }
 
     private void undo() {

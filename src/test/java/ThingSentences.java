@@ -377,6 +377,22 @@ final class ThingSentences {
         row(new int[] {9}, new int[] {1, 8, 2}, 1);
         row(new int[] {9, 5, 4}, new int[] {4, 6}, 1, 0, -2);
         row(new int[] {3, 6, 9}, new int[] {5, 8}, -2, 0, 1);
+        for (int states = 0; states < 9 * 9 * 9 * 9; states++) {
+            twoAndTwo(1 + states % 9, 1 + states / 9 % 9, 1 + states / 81 % 9, 1 + states / 729);
+        }
+    }
+
+    /** Both ways of joining two to two, of one to two and of two to one, by what is lost. */
+    private void twoAndTwo(int a, int b, int c, int d) {
+        boolean crossed = Math.max(0, a - d) + Math.max(0, b - c) < Math.max(0, a - c) + Math.max(0, b - d);
+        row(new int[] {a, b}, new int[] {c, d}, crossed ? 1 : 0, crossed ? 0 : 1);
+        if (b == 1) {
+            row(new int[] {a}, new int[] {c, d}, Math.max(0, a - d) < Math.max(0, a - c) ? 1 : 0);
+        }
+        if (d == 1) {
+            boolean second = a + Math.max(0, b - c) < Math.max(0, a - c) + b;
+            row(new int[] {a, b}, new int[] {c}, second ? -2 : 0, second ? 0 : -2);
+        }
     }
 
     private void lower() {
