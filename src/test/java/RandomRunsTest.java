@@ -3,7 +3,7 @@ import java.util.Random;
 /** Random runs of calls, each answered by the class and by the plain model; the seeds are fixed. */
 public final class RandomRunsTest {
     private static final int RUNS = 600;
-    private static final int CALLS = 480;
+    private static final int CALLS = 512;
 
     private final Random random;
     private final DepositJudge x = new DepositJudge();

@@ -8,6 +8,8 @@ import java.util.function.IntPredicate;
 /** Runs one test for each sentence of the document, under that sentence's own words, and tells which words have none. */
 final class Sentences {
     private static final Path DOCUMENT = Path.of(System.getProperty("shared", "../shared"), "DOC.md");
+    private static final String HEADINGS = "# DepositJudge|## What it is|## The public face|## Terms"
+            + "|## Promise \\d+: (A new object|\\w+)|## Not promised";
 
     private final Due due = new Due();
     /** Empty where the document can't be read: then the tests run, but their words are not looked up. */
@@ -23,15 +25,19 @@ final class Sentences {
         quoted = new boolean[document.length()];
     }
 
-    /** A sentence that stands ahead of the promises. */
     void term(String words, Runnable test) {
-        run(words, 0, document.indexOf("## Promise 1:"), test);
+        section("Terms", words, test);
     }
 
     void promise(int number, String words, Runnable test) {
-        int from = document.indexOf("## Promise " + number + ":");
-        int to = document.indexOf(" ## ", from);
-        run(words, from, to, test);
+        section("Promise " + number + ":", words, test);
+    }
+
+    /** A sentence that stands under a heading that begins so. */
+    void section(String heading, String words, Runnable test) {
+        int from = document.indexOf("## " + heading);
+        int next = document.indexOf(" ## ", from);
+        run(words, from, next < 0 ? document.length() : next, test);
     }
 
     private void run(String words, int from, int to, Runnable test) {
@@ -101,11 +107,10 @@ final class Sentences {
     /** Headings, signatures and marks need no test; all other words do. */
     private void unquoted() {
         StringBuilder left = new StringBuilder();
-        int end = document.indexOf("## Not promised");
-        for (int k = document.indexOf("## Terms"); k < end; k++) {
+        for (int k = 0; k < document.length(); k++) {
             left.append(quoted[k] ? '~' : document.charAt(k));
         }
-        String bare = left.toString().replaceAll("## Terms|## Promise \\d+: (A new object|\\w+)|```(text)?|==== \\d\\.", "~")
+        String bare = left.toString().replaceAll(HEADINGS, "~").replaceAll("```(text|java)?|==== \\d\\.", "~")
                 .replaceAll("`[^`]*\\([^`]*\\)`:", "~");
         for (String words : bare.split("~+")) {
             due.no("no test quotes \"" + words.trim() + "\"", words.matches(".*[A-Za-z0-9].*"));

@@ -4,6 +4,7 @@ import java.io.IOException;
 public final class SentencesTest {
     public static void main(String[] args) throws IOException {
         Sentences doc = new Sentences();
+        new FrameSentences(doc).run();
         new ThingSentences(doc).run();
         new LawSentences(doc).run();
         new ClaimSentences(doc).run();

@@ -9,7 +9,6 @@ final class ThingSentences {
     }
 
     void run() {
-        doc.term("An object is used for at most 512 calls after it has been made", this::calls);
         doc.term("KINDS 0 to 7 of things", this::kinds);
         doc.term("a LIFE (1 to 360 months;", this::lives);
         doc.term("120 at first)", this::lifeAtFirst);
@@ -46,14 +45,6 @@ final class ThingSentences {
         doc.term("WORTH at an age: PRICE (of the HOME's REGION)", this::worthInRegion);
         doc.term("times LIFE less that age, through LIFE, rounded down", this::worth);
         doc.term("(0 from LIFE on).", this::worthFromLifeOn);
-    }
-
-    private void calls() {
-        DepositJudge x = new DepositJudge();
-        for (int k = 1; k <= 511; k++) {
-            x.seed(k);
-        }
-        doc.is("the 512th call", x.count(6), 511);
     }
 
     private void kinds() {
