@@ -1,4 +1,5 @@
 import com.sun.source.tree.AnnotationTree;
+import com.sun.source.tree.ArrayAccessTree;
 import com.sun.source.tree.AssertTree;
 import com.sun.source.tree.BinaryTree;
 import com.sun.source.tree.BlockTree;
@@ -11,14 +12,17 @@ import com.sun.source.tree.EnhancedForLoopTree;
 import com.sun.source.tree.ExpressionTree;
 import com.sun.source.tree.ForLoopTree;
 import com.sun.source.tree.ImportTree;
+import com.sun.source.tree.IdentifierTree;
 import com.sun.source.tree.LambdaExpressionTree;
 import com.sun.source.tree.LiteralTree;
 import com.sun.source.tree.MemberReferenceTree;
+import com.sun.source.tree.MemberSelectTree;
 import com.sun.source.tree.MethodInvocationTree;
 import com.sun.source.tree.MethodTree;
 import com.sun.source.tree.NewArrayTree;
 import com.sun.source.tree.NewClassTree;
 import com.sun.source.tree.ParenthesizedTree;
+import com.sun.source.tree.ReturnTree;
 import com.sun.source.tree.SynchronizedTree;
 import com.sun.source.tree.ThrowTree;
 import com.sun.source.tree.Tree;
@@ -29,8 +33,8 @@ import com.sun.source.tree.WhileLoopTree;
 import com.sun.source.util.JavacTask;
 import com.sun.source.util.TreePath;
 import com.sun.source.util.TreePathScanner;
+import com.sun.source.util.TreeScanner;
 import com.sun.source.util.Trees;
-import java.net.URI;
 import java.util.ArrayList;
 import java.util.HashSet;
 import java.util.LinkedHashMap;
@@ -46,8 +50,6 @@ import javax.lang.model.element.TypeElement;
 import javax.lang.model.type.ArrayType;
 import javax.lang.model.type.TypeKind;
 import javax.lang.model.type.TypeMirror;
-import javax.tools.JavaFileObject;
-import javax.tools.SimpleJavaFileObject;
 import javax.tools.ToolProvider;
 
 /**
@@ -64,6 +66,8 @@ final class LanguageRules extends TreePathScanner<Void, Void> {
     private final Set<String> broken = new LinkedHashSet<>();
     private final Map<String, Set<String>> calls = new LinkedHashMap<>();
     private final Map<String, MethodTree> methods = new LinkedHashMap<>();
+    /** Names of methods that may answer null. */
+    private final Set<String> nullable = new HashSet<>();
     private final Trees trees;
     private final CompilationUnitTree unit;
     private int classes = 0;
@@ -74,18 +78,13 @@ final class LanguageRules extends TreePathScanner<Void, Void> {
     }
 
     static List<String> broken(String source) {
-        JavaFileObject file = new SimpleJavaFileObject(URI.create("string:///DepositJudge.java"), JavaFileObject.Kind.SOURCE) {
-            @Override
-            public CharSequence getCharContent(boolean ignoreErrors) {
-                return source;
-            }
-        };
         JavacTask task = (JavacTask) ToolProvider.getSystemJavaCompiler()
-                .getTask(null, null, d -> { }, List.of("--release", "17"), null, List.of(file));
+                .getTask(null, null, d -> { }, List.of("--release", "17"), null, List.of(Compiled.source("DepositJudge", source)));
         try {
             CompilationUnitTree unit = task.parse().iterator().next();
             task.analyze();
             LanguageRules rules = new LanguageRules(Trees.instance(task), unit);
+            rules.findNullable();
             rules.scan(unit, null);
             rules.recursion();
             rules.depth();
@@ -339,6 +338,10 @@ final class LanguageRules extends TreePathScanner<Void, Void> {
     public Void visitVariable(VariableTree tree, Void none) {
         if (trees.getSourcePositions().getStartPosition(unit, tree) >= 0 && element() != null) {
             type(element().asType(), tree.getName().toString());
+            boolean looked = caller() != null && caller().toString().matches("(?s).*\\b" + tree.getName() + " [!=]= null.*");
+            if (mayBeNull(tree.getInitializer()) && !looked) {
+                breaks(7, "a reference that is not looked at: " + tree.getName());
+            }
         }
         return super.visitVariable(tree, none);
     }
@@ -400,6 +403,10 @@ final class LanguageRules extends TreePathScanner<Void, Void> {
         if (same && (text || plain(left).equals("Integer") && plain(right).equals("Integer"))) {
             breaks(6, "== of two Strings or two Integers");
         }
+        boolean withNull = left.getKind() == TypeKind.NULL || right.getKind() == TypeKind.NULL;
+        if (same && isOwn(left) && isOwn(right) && !withNull) {
+            breaks(6, "an answer by which object it is");
+        }
         boolean divides = tree.getKind() == Tree.Kind.DIVIDE || tree.getKind() == Tree.Kind.REMAINDER;
         if (divides && !looksAtDivisor(tree.getRightOperand())) {
             breaks(7, "a divisor that is not looked at: " + tree.getRightOperand());
@@ -434,6 +441,73 @@ final class LanguageRules extends TreePathScanner<Void, Void> {
         }
         String method = path == null ? "" : path.getLeaf().toString();
         return name.matches("\\w+") && method.matches("(?s).*\\b" + name + " (==|!=|<=|>) 0.*");
+    }
+
+    /** A number that was given from outside is looked at ahead of each use as an index. */
+    @Override
+    public Void visitArrayAccess(ArrayAccessTree tree, Void none) {
+        MethodTree method = caller();
+        if (method != null && method.getModifiers().getFlags().contains(Modifier.PUBLIC)) {
+            String ahead = ahead(method, tree);
+            for (VariableTree parameter : method.getParameters()) {
+                String name = parameter.getName().toString();
+                boolean uses = tree.getIndex().toString().matches(".*\\b" + name + "\\b.*");
+                if (uses && !ahead.matches("(?s).*(\\w\\(" + name + "\\b|\\b" + name + "( - \\d+)? [<>=!]=?|[<>]=? " + name + "\\b).*")) {
+                    breaks(7, "an index that is not looked at: " + name);
+                }
+            }
+        }
+        return super.visitArrayAccess(tree, none);
+    }
+
+    private String ahead(MethodTree method, Tree tree) {
+        try {
+            CharSequence all = unit.getSourceFile().getCharContent(true);
+            int from = (int) trees.getSourcePositions().getStartPosition(unit, method.getBody());
+            return all.subSequence(from, (int) trees.getSourcePositions().getStartPosition(unit, tree)).toString();
+        } catch (java.io.IOException e) {
+            throw new IllegalStateException(e);
+        }
+    }
+
+    private void findNullable() {
+        new TreeScanner<Void, String>() {
+            @Override
+            public Void visitMethod(MethodTree tree, String outside) {
+                return super.visitMethod(tree, tree.getName().toString());
+            }
+
+            @Override
+            public Void visitReturn(ReturnTree tree, String method) {
+                if (String.valueOf(tree.getExpression()).matches("(.*\\W)?null(\\W.*)?")) {
+                    nullable.add(method);
+                }
+                return super.visitReturn(tree, method);
+            }
+        }.scan(unit, null);
+    }
+
+    private boolean mayBeNull(Tree value) {
+        return value != null && nullable.stream().anyMatch(name -> value.toString().matches("(?s)(.*\\W)?" + name + "\\(.*"));
+    }
+
+    @Override
+    public Void visitMemberSelect(MemberSelectTree tree, Void none) {
+        if (tree.getExpression() instanceof MethodInvocationTree && mayBeNull(tree.getExpression())) {
+            breaks(7, "a reference that is not looked at: " + tree.getExpression());
+        }
+        return super.visitMemberSelect(tree, none);
+    }
+
+    @Override
+    public Void visitIdentifier(IdentifierTree tree, Void none) {
+        MethodTree method = caller();
+        boolean makes = method == null || method.getName().contentEquals("<init>");
+        boolean whole = !(getCurrentPath().getParentPath().getLeaf() instanceof MemberSelectTree);
+        if (tree.getName().contentEquals("this") && makes && whole) {
+            breaks(12, "a constructor hands out its object");
+        }
+        return super.visitIdentifier(tree, none);
     }
 
     // ---- what is made and called

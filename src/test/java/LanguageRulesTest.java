@@ -14,6 +14,9 @@ import java.util.stream.Collectors;
 /** The class breaks no rule of LANGUAGE.md; and what breaks one is seen. */
 public final class LanguageRulesTest {
     private static final Due due = new Due();
+    /** A class inside, and a call that may answer none of it. */
+    private static final String OWN = "private static final class In { int k = 0; } private final In in = new In();"
+            + " private In g() { return in.k > 0 ? in : null; } ";
 
     public static void main(String[] args) throws IOException {
         String source = Files.readString(Path.of("src/main/java/DepositJudge.java"));
@@ -23,6 +26,7 @@ public final class LanguageRulesTest {
         due.no("texts hold signs 1 to 127", source.chars().anyMatch(c -> c > 127 || c < 10));
         face();
         goodOnes();
+        badLooks();
         badMembers();
         badStatements();
         badMakings();
@@ -79,7 +83,22 @@ public final class LanguageRulesTest {
         rules("private static int f(int n, int depth) { return n > 9 ? 0 : f(n + 1, depth + 1); }");
         rules("private static int f(int n) { int s = 0; for (int k = 0; k < n && k < 9; k++) { s += k; } return s; }");
         rules("private static final class In { final int[] a = new int[3]; } private final In in = new In();");
+        rules("private final int[] a = new int[3]; public int f(int k) { return k < 0 || k > 2 ? 0 : a[k]; }");
+        rules("private final int[] a = new int[3]; public int f(int k) { return in(k) ? a[k] : 0; }"
+                + " private static boolean in(int k) { return k == 1; }");
+        rules(OWN + "public int f() { In i = g(); return i == null ? 0 : i.k; }");
         rules("private static int f(String s) { return Math.max(s.length(), s.indexOf('a')); }");
+    }
+
+    private static void badLooks() {
+        rules("private final int[] a = new int[3]; public int f(int k) { return a[k]; }", 7);
+        rules("private final int[] a = new int[3]; public int f(int k, int n) { return n > 3 ? a[n - 4 + k] : 0; }", 7);
+        rules("private final int[] a = new int[3]; public int f(int k) { int b = a[k]; return k < 3 ? b : 0; }", 7);
+        rules(OWN + "public int f() { In i = g(); return i.k; }", 7);
+        rules(OWN + "public int f() { return g().k; }", 7);
+        rules(OWN + "public boolean f() { In i = g(); return i != null && i == in; }", 6);
+        rules("private static final class In { final In me = this; int k = 0; }", 12);
+        rules("private static final class In { In me; In() { me = this; } }", 12);
     }
 
     private static void badMembers() {

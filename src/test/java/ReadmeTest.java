@@ -1,22 +1,14 @@
 import java.io.IOException;
-import java.net.URI;
-import java.net.URL;
-import java.net.URLClassLoader;
 import java.nio.file.Files;
 import java.nio.file.Path;
 import java.util.ArrayList;
 import java.util.Arrays;
-import java.util.Comparator;
 import java.util.List;
 import java.util.function.Supplier;
 import java.util.regex.Matcher;
 import java.util.regex.Pattern;
 import java.util.stream.Collectors;
 import java.util.stream.Stream;
-import javax.tools.JavaCompiler;
-import javax.tools.JavaFileObject;
-import javax.tools.SimpleJavaFileObject;
-import javax.tools.ToolProvider;
 
 /** What README.md shows is so: its face, the answers in its runs of calls, its table of tests. */
 public final class ReadmeTest {
@@ -51,7 +43,7 @@ public final class ReadmeTest {
     }
 
     /** Each line is a call with its answer, or begins the run, or is a comment. */
-    private static void answers(String block) throws IOException {
+    private static void answers(String block) {
         List<String> calls = new ArrayList<>();
         List<String> want = new ArrayList<>();
         for (String line : block.split("\n")) {
@@ -72,7 +64,7 @@ public final class ReadmeTest {
     }
 
     /** Lets the compiler read the calls as they stand, and answers what they answer. */
-    private static List<String> run(List<String> calls) throws IOException {
+    private static List<String> run(List<String> calls) {
         StringBuilder source = new StringBuilder("import java.util.*;\npublic final class ReadmeRun "
                 + "implements java.util.function.Supplier<List<String>> {\npublic List<String> get() {\n"
                 + "List<String> got = new ArrayList<>();\n" + BEGIN + "\n");
@@ -80,43 +72,14 @@ public final class ReadmeTest {
             source.append("got.add(String.valueOf(").append(call).append("));\n");
         }
         source.append("return got;\n}\n}\n");
-        Path out = Files.createTempDirectory("readme");
+        Class<?> run = Compiled.of("ReadmeRun", source.toString());
+        due.yes("the calls are Java", run != null);
         try {
-            return compile(source.toString(), out) ? load(out) : List.of();
-        } finally {
-            clear(out);
-        }
-    }
-
-    private static boolean compile(String source, Path out) {
-        JavaFileObject file = new SimpleJavaFileObject(URI.create("string:///ReadmeRun.java"), JavaFileObject.Kind.SOURCE) {
-            @Override
-            public CharSequence getCharContent(boolean ignoreErrors) {
-                return source;
-            }
-        };
-        JavaCompiler compiler = ToolProvider.getSystemJavaCompiler();
-        List<String> options = List.of("-d", out.toString(), "-cp", System.getProperty("java.class.path"));
-        return compiler.getTask(null, null, null, options, null, List.of(file)).call();
-    }
-
-    private static List<String> load(Path out) throws IOException {
-        try (URLClassLoader loader = new URLClassLoader(new URL[] {out.toUri().toURL()}, ReadmeTest.class.getClassLoader())) {
-            Object made = loader.loadClass("ReadmeRun").getConstructor().newInstance();
+            Object made = run == null ? (Supplier<?>) List::of : run.getConstructor().newInstance();
             return ((List<?>) ((Supplier<?>) made).get()).stream().map(String::valueOf).collect(Collectors.toList());
         } catch (ReflectiveOperationException e) {
             due.yes("the run threw " + e, false);
             return List.of();
-        }
-    }
-
-    private static void clear(Path directory) throws IOException {
-        List<Path> all;
-        try (Stream<Path> files = Files.walk(directory)) {
-            all = files.sorted(Comparator.reverseOrder()).collect(Collectors.toList());
-        }
-        for (Path path : all) {
-            Files.delete(path);
         }
     }
 
